@@ -38,15 +38,15 @@ public final class GraftedLaws {
     private Searches searches;
 
     public GraftedLaws() {
+        laws = new Orchard();
+        spare = new Orchard();
         tape = new Tape();
-        reader = new Reader(tape);
-        cases = new Cases();
-        seasons = new Seasons();
+        reader = new Reader(tape, spare);
+        cases = new Cases(laws);
+        seasons = new Seasons(laws);
         wishes = new Wishes();
         judgements = new Judgements();
         lying = new Lying();
-        laws = new Orchard();
-        spare = new Orchard();
         settle();
     }
 
@@ -691,8 +691,9 @@ public final class GraftedLaws {
         int fault;
         int place = NONE;
 
-        Reader(Tape tape) {
+        Reader(Tape tape, Orchard blank) {
             this.tape = tape;
+            orchard = blank;
         }
 
         boolean reads(Orchard blank) {
@@ -1274,6 +1275,10 @@ public final class GraftedLaws {
         /** What follows by a set of clauses that all apply: only this set matters, so no case needs a row of its own. */
         private final short[] outcomes = new short[SETS];
 
+        Cases(Orchard told) {
+            laws = told;
+        }
+
         void grow(Orchard told) {
             laws = told;
             measure();
@@ -1454,6 +1459,10 @@ public final class GraftedLaws {
         private int boxesFilled;
         int undoable;
         int redoable;
+
+        Seasons(Orchard told) {
+            laws = told;
+        }
 
         void begin(Orchard told) {
             laws = told;

@@ -54,11 +54,12 @@ public final class ModelTest {
     }
 
     private void tell(boolean spoil, int traits, int clauses) {
-        Texts texts = new Texts(chance);
+        Texts texts = new Texts(chance, spoil && chance.nextBoolean());
         String text = texts.next(traits, clauses);
-        if (spoil) {
+        if (spoil && chance.nextInt(3) > 0) {
             text = texts.spoilt(text);
         }
+        text = text.substring(0, Math.min(1600, text.length()));
         byte[] bytes = text.getBytes(StandardCharsets.ISO_8859_1);
         told = text;
         for (int i = 0; i < bytes.length; i += 20) {

@@ -686,6 +686,13 @@ public final class PromisesTest {
         aimIs("1+a<a*2", 0, 0, 1, 1);
         aimIs("0-9999*9999*21-9999*9999*21", -(9999 * 9999 * 21) - 9999 * 9999 * 21);
         aimIs("(((((((a)))))))", 0, 1, 2, 3);
+        String sevenNots = "not not not not not not not a";
+        StringBuilder longest = new StringBuilder(sevenNots);
+        for (int n = 1; n < 30; n++) {
+            longest.append(n % 2 == 0 ? " and " : " or ").append(sevenNots);
+        }
+        aimIs(longest.toString(), 1, 0, 0, 0);
+        aimIs("a+(a+(a+(a+(a+(a+(a+a))))))", 0, 8, 16, 24);
         GraftedLaws x = Desk.grown("trait a 2;");
         due("26 without", x.aim(1), 0);
         x = Desk.grown("aim 5;trait a 2;");

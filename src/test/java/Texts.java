@@ -9,12 +9,19 @@ final class Texts {
     private final List<String> trees = new ArrayList<>();
     private final List<String> clauses = new ArrayList<>();
     private final List<Integer> homes = new ArrayList<>();
+    private final boolean careless;
     private int links;
     private int unitsLeft;
     private int unitsHere;
 
-    Texts(Random chance) {
+    /** Careless ones go beyond the limits now and then. */
+    Texts(Random chance, boolean careless) {
         this.chance = chance;
+        this.careless = careless;
+    }
+
+    private boolean slips() {
+        return careless && chance.nextInt(6) == 0;
     }
 
     String next(int mostTraits, int mostClauses) {
@@ -31,16 +38,16 @@ final class Texts {
         boolean[] once = new boolean[4];
         for (int i = 0; i < 60; i++) {
             int sort = chance.nextInt(12);
-            if (sort < 3 && traits.size() < wantedTraits) {
-                String name = name("abcd", traits.size());
+            if (sort < 3 && traits.size() < wantedTraits + (slips() ? 3 : 0) && traits.size() < 6) {
+                String name = name("abcdef", traits.size());
                 text.append("trait ").append(name).append(gap()).append(2 + chance.nextInt(3));
                 traits.add(name);
-            } else if (sort < 5 && trees.size() < wantedTrees) {
-                String name = name("tuv", trees.size());
+            } else if (sort < 5 && trees.size() < wantedTrees + (slips() ? 2 : 0) && trees.size() < 5) {
+                String name = name("tuvwx", trees.size());
                 text.append("tree ").append(name);
                 text.append(new String[] {"", " later", " narrow"}[chance.nextInt(3)]);
                 trees.add(name);
-            } else if (sort < 10 && clauses.size() < wantedClauses && !trees.isEmpty() && i > 8) {
+            } else if (sort < 10 && clauses.size() < wantedClauses + (slips() ? 3 : 0) && !trees.isEmpty() && i > 8) {
                 clause(text);
             } else if (sort == 10 && !once[0] && i > 8) {
                 once[0] = true;
@@ -77,13 +84,13 @@ final class Texts {
         }
         String name = "c" + (char) ('a' + clauses.size());
         text.append("clause ").append(name).append(" on ").append(trees.get(home)).append(" says ");
-        text.append(chance.nextInt(chance.nextBoolean() ? 4 : 100)).append(' ');
+        text.append(chance.nextInt(chance.nextBoolean() ? 4 : slips() ? 200 : 100)).append(' ');
         boolean set = chance.nextInt(2) == 0;
         boolean forbids = chance.nextInt(12) == 0;
-        for (int n = chance.nextInt(4); n > 0 && !clauses.isEmpty() && links < 30; n--) {
+        for (int n = chance.nextInt(slips() ? 12 : 4); n > 0 && !clauses.isEmpty() && (links < 30 || slips()); n--) {
             int other = chance.nextInt(clauses.size());
             String sort = new String[] {"over", "needs", "bars"}[chance.nextInt(3)];
-            if (sort.equals("over") && homes.get(other) != home) {
+            if (sort.equals("over") && homes.get(other) != home && !slips()) {
                 continue;
             }
             links++;
@@ -96,6 +103,9 @@ final class Texts {
 
     private String formula() {
         unitsHere = Math.min(30, Math.max(1, Math.min(unitsLeft, 2 + chance.nextInt(9))));
+        if (slips()) {
+            unitsHere = 28 + chance.nextInt(8);
+        }
         return either(0);
     }
 
@@ -108,7 +118,7 @@ final class Texts {
     }
 
     private String one(int depth) {
-        if (depth < 6 && chance.nextInt(6) == 0) {
+        if (depth < (careless ? 9 : 6) && chance.nextInt(careless ? 3 : 6) == 0) {
             return "not " + one(depth + 1);
         }
         String left = sum(depth);
@@ -129,11 +139,11 @@ final class Texts {
     private String unit(int depth) {
         unitsHere--;
         unitsLeft--;
-        if (depth < 6 && unitsHere > 1 && chance.nextInt(5) == 0) {
+        if (depth < (careless ? 9 : 6) && unitsHere > 1 && chance.nextInt(careless ? 3 : 5) == 0) {
             return "(" + either(depth + 1) + ")";
         }
         if (!traits.isEmpty() && chance.nextInt(3) > 0) {
-            return traits.get(chance.nextInt(traits.size()));
+            return slips() && slips() ? "nobody" : traits.get(chance.nextInt(traits.size()));
         }
         return String.valueOf(chance.nextInt(20) == 0 ? chance.nextInt(10000) : chance.nextInt(5));
     }
