@@ -1161,7 +1161,6 @@ public final class GraftedLaws {
         void clear() {
             length = 0;
             units = 0;
-            Arrays.fill(starts, 0);
             Arrays.fill(ends, 0);
         }
 

@@ -517,7 +517,7 @@ final class Model {
         return clause(c) ? extent(c).size() : NONE;
     }
 
-    private int followed(int t, int set, int k) {
+    int followed(int t, int set, int k) {
         long key = ((long) t << 40) | ((long) set << 16) | k;
         Integer had = known.get(key);
         if (had == null) {

@@ -10,6 +10,8 @@ public final class ModelTest {
     private Model model;
     private int calls;
     private String told = "";
+    /** By this set what is wished and judged follows, most times, so that there is something to find. */
+    private int goal;
 
     private ModelTest(Desk desk, long seed) {
         this.desk = desk;
@@ -38,7 +40,8 @@ public final class ModelTest {
         }
         while (calls < CALLS - 90) {
             tell(chance.nextInt(10) == 0, seed % 4 == 3 ? 4 : 3, seed % 4 == 3 ? 12 : 8);
-            for (int n = 0; n < 150 && calls < CALLS; n++) {
+            int most = 20 + chance.nextInt(150);
+            for (int n = 0; n < most && calls < CALLS; n++) {
                 call();
             }
         }
@@ -72,6 +75,7 @@ public final class ModelTest {
         }
         due("end", laws.end(bytes.length), model.end(bytes.length));
         due("orchard", laws.orchard(), model.orchard());
+        goal = chance.nextInt(4096);
         due("fault(0)", laws.fault(0), model.fault(0));
         due("fault(1)", laws.fault(1), model.fault(1));
     }
@@ -105,7 +109,10 @@ public final class ModelTest {
         if (sort == 1 && model.about(3) > 0) {
             return Math.max(-2, model.clause(chance.nextInt(model.about(3)), 1));
         }
-        return sort == 2 ? -1 : Math.max(-2, model.follows(tree, kase));
+        if (sort < 4 && tree >= 0 && kase >= 0 && tree < model.about(2) && kase < model.about(1)) {
+            return model.followed(tree, goal, kase);
+        }
+        return Math.max(-2, model.follows(tree, kase));
     }
 
     private void call() {

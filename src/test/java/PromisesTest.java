@@ -162,6 +162,40 @@ public final class PromisesTest {
         due("4 nothing lies there", x.lies(0), NONE);
         due("4 an empty text", x.orchard(), 1);
         due("4 without traits", x.about(0), 0);
+        nothingStaysOfEarlierOnes();
+    }
+
+    private static void nothingStaysOfEarlierOnes() {
+        GraftedLaws again = new GraftedLaws();
+        for (int n = 0; n < 60; n++) {
+            Desk.feed(again, "aim 1+1+1+1+1+1+1+1+1+1+1+1+1+1+1+1+1+1+1+1+1+1+1+1+1+1+1+1+1+" + n + ";");
+            due("4 orchard " + n, again.orchard(), 1);
+            due("4 its aim", again.aim(0), 29 + n);
+        }
+        String full = "trait a 3;tree t later;tree u narrow;clause p on t says 8 set forbids if a;clause q on t says 9 set over p needs p bars p if a>1;"
+            + "clause r on u says 7 set if 1;aim 5+a;bears 7;suckers 6;seed 5;";
+        String plain = "tree t;clause p on t says 1 set if 1;clause q on t says 2 set if 1;clause r on t says 3 if 1;";
+        String[][] orders = {{full, plain}, {full, "", plain}, {full, full, plain}, {full, "oh", plain}, {full, plain, "", plain}};
+        for (String[] order : orders) {
+            GraftedLaws x = new GraftedLaws();
+            for (String text : order) {
+                Desk.feed(x, text);
+                x.orchard();
+            }
+            int[] wants = {0, 1, 1, 3, 0, 0, 2, 0, 0, 0, 0, 0, 0, 3, 0, 0};
+            for (int what = 0; what < wants.length; what++) {
+                due("4 behind others about(" + what + ")", x.about(what), wants[what]);
+            }
+            due("4 behind others aim", x.aim(0), 0);
+            due("4 behind others over", x.over(1, 0), 0);
+            due("4 behind others follows", x.follows(0, 0), SPLIT);
+            due("4 behind others no tree", x.follows(1, 0), -3);
+            due("4 behind others graft", x.graft(2), 1);
+            due("4 behind others prune", x.prune(0), true);
+            due("4 behind others suckers", x.clause(0, 5), NONE);
+            due("4 behind others can", x.can(0, 0, 0), 8);
+            due("4 behind others wide", x.wide(0), 1);
+        }
     }
 
     private static void p05Fault() {
@@ -605,6 +639,11 @@ public final class PromisesTest {
         due("24 without wishes", x.least(0), 0);
         x.wish(0, 1);
         due("24 it follows already", x.least(0), 0);
+        GraftedLaws y = Desk.grown("trait a 3;tree t;clause p on t says 1 set if 1;clause q on t says 2 over p if a=1;"
+            + "clause r on t says 2 over p if a=2;clause s on t says 2 over p if a>0;");
+        y.wish(1, 2);
+        y.wish(2, 2);
+        due("24 one rather than two of lower numbers", y.least(0), 0b1000);
         x.wish(1, 2);
         due("24 of like ones the least", x.least(0), 0b100);
         x.wish(2, 2);
@@ -774,6 +813,8 @@ public final class PromisesTest {
         }
         x = Desk.grown("trait a 3;tree t;clause p on t says 4 set if a<2;clause q on t says 6 set if a=1;");
         due("30 where they split one pays 0", x.evade(0, 0), 1);
+        GraftedLaws y = Desk.grown("trait a 2;trait b 2;trait c 2;trait d 2;tree t;clause p on t says 4 set if a+b+c+d<4;");
+        due("30 all four traits", y.evade(0, 0), 15);
         due("30 from there on none pays less", x.evade(0, 1), NONE);
     }
 
@@ -979,6 +1020,15 @@ public final class PromisesTest {
         x.judge(0, 0, 9);
         due("39 no set", x.ask(0, 0, 3), NONE);
         due("39 no set", x.ask(0, 1, 3), NONE);
+        StringBuilder twelve = new StringBuilder("trait a 2;tree t;");
+        for (char c = 'a'; c <= 'l'; c++) {
+            twelve.append("clause ").append(c).append(" on t says 1 if 0;");
+        }
+        GraftedLaws y = Desk.grown(twelve.toString());
+        due("39 nothing tells anything", y.ask(0, 0, 0), 0);
+        due("39 all sets are left", y.ask(0, 1, 0), 4096);
+        due("39 all sets", y.can(0, 0, 0), 4096);
+        due("39 each is in some", y.can(0, 2, 0), 4095);
         due("39 no tree", x.ask(1, 0, 0), NONE);
         due("39 another what", x.ask(0, 2, 0), NONE);
         for (int odd : ODD) {

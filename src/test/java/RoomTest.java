@@ -103,13 +103,18 @@ public final class RoomTest {
 
     /** More acts than the forty numbers that lie there otherwise; each of them can be done in earnest. */
     private static void longWay() {
-        GraftedLaws x = Desk.grown("tree t;clause ca on t says 1 set forbids if 1;clause cb on t says 1 set bars ca if 1;"
+        GraftedLaws x = Desk.grown("trait a 4;trait b 4;trait c 4;tree t;clause ca on t says 2 set forbids if 1;clause cb on t says 1 set bars ca if 1;"
             + "clause cc on t says 1 set bars cb if 1;clause cd on t says 1 set bars cc if 1;clause ce on t says 1 set bars cb bars cc bars cd if 1;"
             + "clause cf on t says 1 set needs ce bars ce if 1;clause cg on t says 1 set needs ce needs cf bars cb bars ce if 1;"
             + "clause ch on t says 1 set needs cb needs cg bars cd bars cf if 1;clause ci on t says 1 set needs cc needs ch bars cd if 1;"
             + "clause cj on t says 1 set needs cd needs cg needs ci bars cc if 1;clause ck on t says 1 set needs cc needs cg needs cj bars cb if 1;"
             + "clause cl on t says 1 set needs cb needs ck bars ca if 1;");
         DESK.due("a long way", x.reach(0, 3665), 86);
+        DESK.due("behind it", x.fruit(0), 64);
+        DESK.due("forty cases lie there, as ever", x.about(14), 40);
+        DESK.due("the last of them", x.lies(39), 39);
+        DESK.due("no other", x.lies(40), GraftedLaws.NONE);
+        DESK.due("a long way again", x.reach(0, 3665), 86);
         int set = 4095;
         for (int i = 0; i < 86; i++) {
             int clause = x.lies(i);
