@@ -196,32 +196,32 @@ public final class GraftedLaws {
             return NONE;
         }
         int in = seasons.inNow();
-        boolean can = what == 0 ? laws.canTake(clause, in) : laws.canLose(clause, in);
-        return can ? 1 : 0;
+        boolean isFree = what == 0 ? laws.canBeGrafted(clause, in) : laws.canBePruned(clause, in);
+        return isFree ? 1 : 0;
     }
 
     public int graft(int clause) {
-        if (!laws.clauses.has(clause) || !laws.canTake(clause, seasons.inNow())) {
+        if (!laws.clauses.has(clause) || !laws.canBeGrafted(clause, seasons.inNow())) {
             return NONE;
         }
-        seasons.put(clause);
+        seasons.graftNow(clause);
         return seasons.bearsFrom(clause);
     }
 
     public boolean prune(int clause) {
-        if (!laws.clauses.has(clause) || !laws.canLose(clause, seasons.inNow())) {
+        if (!laws.clauses.has(clause) || !laws.canBePruned(clause, seasons.inNow())) {
             return false;
         }
-        seasons.cut(clause);
+        seasons.pruneNow(clause);
         return true;
     }
 
     public int year() {
-        return seasons.goOn() ? seasons.yearNow() : NONE;
+        return seasons.passYear() ? seasons.yearNow() : NONE;
     }
 
     public int storm() {
-        return seasons.blow();
+        return seasons.passStorm();
     }
 
     public boolean undo() {
@@ -409,11 +409,11 @@ public final class GraftedLaws {
     }
 
     public boolean untell(int judgement) {
-        return judgements.takeBack(judgement);
+        return judgements.untellNow(judgement);
     }
 
     public int later(int by) {
-        return judgements.goOn(by) ? judgements.time : NONE;
+        return judgements.passTime(by) ? judgements.time : NONE;
     }
 
     public int can(int tree, int what, int k) {
@@ -1111,14 +1111,14 @@ public final class GraftedLaws {
             }
         }
 
-        boolean canTake(int clause, int in) {
+        boolean canBeGrafted(int clause, int in) {
             if (!clauses.has(clause) || (in >> clause & 1) != 0) {
                 return false;
             }
             return (needs[clause] & ~in) == 0 && (forbidders & in & members[homes[clause]]) == 0;
         }
 
-        boolean canLose(int clause, int in) {
+        boolean canBePruned(int clause, int in) {
             return clauses.has(clause) && (in >> clause & 1) != 0 && (barrers[clause] & in) == 0;
         }
 
@@ -1271,7 +1271,7 @@ public final class GraftedLaws {
         private final int[] aims = new int[CASES];
         /** For each clause those that are over it. */
         private final int[] aboves = new int[CLAUSES];
-        /** What follows by a set of clauses that all apply: only this set matters, so no case needs a row of its own. */
+        /** What follows by a set of clauses that all apply: only this set matters, whatever the case is. */
         private final short[] outcomes = new short[SETS];
 
         Cases(Orchard told) {
@@ -1339,8 +1339,11 @@ public final class GraftedLaws {
                 if (here && !there) {
                     return false;
                 }
-                shares |= here;
-                lacks |= there && !here;
+                if (here) {
+                    shares = true;
+                } else if (there) {
+                    lacks = true;
+                }
             }
             return shares && lacks;
         }
@@ -1508,17 +1511,17 @@ public final class GraftedLaws {
             return set;
         }
 
-        void put(int clause) {
+        void graftNow(int clause) {
             startAct();
             letIn(clause, yearNow() + laws.bears);
         }
 
-        void cut(int clause) {
+        void pruneNow(int clause) {
             startAct();
             letOut(clause, laws.suckers == 0 ? NONE : yearNow() + laws.suckers);
         }
 
-        boolean goOn() {
+        boolean passYear() {
             if (yearNow() >= LAST_YEAR) {
                 return false;
             }
@@ -1536,7 +1539,7 @@ public final class GraftedLaws {
             return true;
         }
 
-        int blow() {
+        int passStorm() {
             startAct();
             int seed = (seedNow() * 137 + 71) % 1000;
             write(SEED, seed);
@@ -1709,7 +1712,7 @@ public final class GraftedLaws {
             return count - 1;
         }
 
-        boolean takeBack(int judgement) {
+        boolean untellNow(int judgement) {
             if (judgement < 0 || judgement >= count || judgement >= MOST || untold[judgement] != NONE) {
                 return false;
             }
@@ -1717,7 +1720,7 @@ public final class GraftedLaws {
             return true;
         }
 
-        boolean goOn(int by) {
+        boolean passTime(int by) {
             if (by < 0 || by > LONGEST_STEP || time + by > LAST_TIME) {
                 return false;
             }
@@ -1792,7 +1795,7 @@ public final class GraftedLaws {
 
         /** The next subset of one, upwards, behind the last one 0. */
         private static int subsetBehind(int set, int all) {
-            return set - all & all;
+            return (set - all) & all;
         }
 
         static int fewestMore(Cases cases, int tree, int bearing, Wishes wishes) {
@@ -1876,7 +1879,7 @@ public final class GraftedLaws {
         private void spread(Orchard laws, int members, int others, int set) {
             int in = set | others;
             for (int clause = 0; clause < CLAUSES; clause++) {
-                if ((members >> clause & 1) != 0 && (laws.canTake(clause, in) || laws.canLose(clause, in))) {
+                if ((members >> clause & 1) != 0 && (laws.canBeGrafted(clause, in) || laws.canBePruned(clause, in))) {
                     note(set ^ 1 << clause, clause);
                 }
             }
