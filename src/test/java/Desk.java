@@ -23,6 +23,38 @@ final class Desk {
         due(call, got ? 1 : 0, want ? 1 : 0);
     }
 
+    /** Numbers lie there in this order, and none behind them. */
+    void lie(String call, GraftedLaws x, int... wants) {
+        due(call + ", about(14)", x.about(14), wants.length);
+        for (int i = 0; i < wants.length; i++) {
+            due(call + ", lies(" + i + ")", x.lies(i), wants[i]);
+        }
+        due(call + ", lies behind the last", x.lies(wants.length), GraftedLaws.NONE);
+        due(call + ", lies ahead of the first", x.lies(-1), GraftedLaws.NONE);
+    }
+
+    /** The fault stands where the text has a bar, which is left out of it. */
+    void fault(int what, String text) {
+        int place = text.indexOf('|');
+        GraftedLaws x = new GraftedLaws();
+        feed(x, text.substring(0, place) + text.substring(place + 1));
+        due("orchard of " + text, x.orchard(), GraftedLaws.NONE);
+        due("fault(0) of " + text, x.fault(0), what);
+        due("fault(1) of " + text, x.fault(1), place);
+        due("the tape behind " + text, x.about(12), 0);
+    }
+
+    /** A text without a fault, with so many cases. */
+    GraftedLaws good(int cases, String text) {
+        GraftedLaws x = new GraftedLaws();
+        feed(x, text);
+        due("orchard of " + text, x.orchard(), cases);
+        due("fault(0) of " + text, x.fault(0), 0);
+        due("fault(1) of " + text, x.fault(1), GraftedLaws.NONE);
+        due("the tape behind " + text, x.about(12), 0);
+        return x;
+    }
+
     int wrongAnswers() {
         return wrong;
     }

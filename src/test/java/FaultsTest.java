@@ -20,24 +20,12 @@ public final class FaultsTest {
         DESK.close();
     }
 
-    /** The fault stands where the text has a bar, which is left out of it. */
     private static void fault(int what, String text) {
-        int place = text.indexOf('|');
-        String whole = text.substring(0, place) + text.substring(place + 1);
-        GraftedLaws x = new GraftedLaws();
-        Desk.feed(x, whole);
-        DESK.due("orchard of " + text, x.orchard(), -1);
-        DESK.due("fault(0) of " + text, x.fault(0), what);
-        DESK.due("fault(1) of " + text, x.fault(1), place);
-        DESK.due("the tape behind " + text, x.about(12), 0);
+        DESK.fault(what, text);
     }
 
     private static void good(int cases, String text) {
-        GraftedLaws x = new GraftedLaws();
-        Desk.feed(x, text);
-        DESK.due("orchard of " + text, x.orchard(), cases);
-        DESK.due("fault(0) of " + text, x.fault(0), 0);
-        DESK.due("fault(1) of " + text, x.fault(1), -1);
+        DESK.good(cases, text);
     }
 
     private static void tokens() {

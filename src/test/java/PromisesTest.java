@@ -63,11 +63,7 @@ public final class PromisesTest {
     }
 
     private static void lie(String call, GraftedLaws x, int... wants) {
-        due(call + ", about(14)", x.about(14), wants.length);
-        for (int i = 0; i < wants.length; i++) {
-            due(call + ", lies(" + i + ")", x.lies(i), wants[i]);
-        }
-        due(call + ", lies behind the last", x.lies(wants.length), NONE);
+        DESK.lie(call, x, wants);
     }
 
     private static void p01NewObject() {
