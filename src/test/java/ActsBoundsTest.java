@@ -277,6 +277,32 @@ public final class ActsBoundsTest {
         due("both are due again", x.clause(0, 5) + x.clause(1, 5), 2);
         due("redone", x.redo(), true);
         due("both are in again", x.about(6), 3);
+        twelveSucker();
+    }
+
+    /** Each in its own year, and none other is touched by it. */
+    private static void twelveSucker() {
+        StringBuilder text = new StringBuilder("tree t;suckers 4;bears 9;");
+        for (int clause = 0; clause < 12; clause++) {
+            text.append("clause c").append((char) ('a' + clause)).append(" on t says 1 set if 1;");
+        }
+        GraftedLaws x = Desk.grown(text.toString());
+        int[] prunedIn = {2, 0, 1, 2, 0, 1, 2, 0, 1, 2, 0, 1};
+        for (int year = 0; year <= 7; year++) {
+            for (int clause = 0; clause < 12; clause++) {
+                if (prunedIn[clause] == year) {
+                    due("prune", x.prune(clause), true);
+                }
+            }
+            for (int clause = 0; clause < 12; clause++) {
+                int pruned = prunedIn[clause];
+                boolean out = year >= pruned && year < pruned + 4;
+                due("in, " + clause + " in " + year, x.clause(clause, 2), out ? 0 : 1);
+                due("from, " + clause + " in " + year, x.clause(clause, 4), out ? NONE : year < pruned ? 0 : pruned + 4);
+                due("suckers, " + clause + " in " + year, x.clause(clause, 5), out ? pruned + 4 : NONE);
+            }
+            x.year();
+        }
     }
 
     /** Promise 17: NONE, doing nothing, if it would be above 1,000. (More calls than an object is used for.) */

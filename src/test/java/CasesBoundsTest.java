@@ -206,6 +206,13 @@ public final class CasesBoundsTest {
         for (int kase = 0; kase < 4; kase++) {
             due("below 0, 0, above 0", x.applies(0, kase), kase == 2 ? 0 : 1);
         }
+        x = Desk.grown("aim 5+1;trait a 2;tree t;clause p on t says 1 if 0;clause q on t says 1 if a;clause r on t says 1 if 2-2*a;");
+        int[] both = {0b00, 0b10, 0b01};
+        for (int clause = 0; clause < 3; clause++) {
+            due("each by its own e", x.applies(clause, 0), both[clause] & 1);
+            due("each by its own e", x.applies(clause, 1), both[clause] >> 1);
+        }
+        due("the aim by its own", x.aim(1), 6);
     }
 
     /** One is OVER another one of its TREE, if it is told so. */

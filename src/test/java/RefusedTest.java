@@ -444,5 +444,76 @@ public final class RefusedTest {
             Desk.feed(y, LAWS);
             y.orchard();
         });
+        behindAGreatOne();
+    }
+
+    private static final String GREAT = "trait z 4;trait y 4;trait x 4;trait w 4;tree c narrow;tree b later;tree a narrow;"
+        + "clause ca on a says 9 set forbids if 1;clause cb on a says 8 set over ca needs ca bars ca if 1;clause cc on a says 7 set forbids over ca bars cb if 1;"
+        + "clause cd on b says 6 set needs ca bars cc if 1;clause ce on b says 5 set over cd needs cd bars ca if 1;clause cf on a says 4 set if 1;"
+        + "clause cg on a says 4 set if 1;clause ch on a says 4 set if 1;clause ci on a says 4 set if 1;clause cj on a says 4 set if 1;"
+        + "clause ck on a says 4 set if 1;clause cl on a says 4 set if 1;aim 9999;bears 9;suckers 9;seed 999;";
+    private static final String SMALL = "trait a 3;tree t;tree u;clause p on t says 3 set if a;clause q on t says 4 set if a>1;clause r on u says 5 if a;clause s on u says 6 if a=0;";
+    private static final String BARE = "tree t;clause p on t says 3 set if 1;clause q on t says 3 set if 1;";
+
+    /** Nothing of a great orchard stays: of its cases, clauses, what is over which, needs, bars, forbids, aim and numbers. */
+    private static void behindAGreatOne() {
+        for (String text : new String[] {SMALL, BARE, LAWS, "", "trait a 4;tree t;", "aim 3;", "tree t;clause p on t says 3 set if 0;"}) {
+            Whole.Run fresh = x -> {
+                Desk.feed(x, text);
+                x.orchard();
+            };
+            for (int great = 1; great <= 3; great++) {
+                int many = great;
+                Whole.stays(DESK, many + " great ones ahead of " + text, fresh, x -> {
+                    growGreat(x, many);
+                    fresh.on(x);
+                });
+                answersAlike(text, many);
+            }
+        }
+        GraftedLaws x = new GraftedLaws();
+        for (int n = 0; n < 25; n++) {
+            Desk.feed(x, "tree t;clause p on t says 1 if " + "1+".repeat(29) + n + ";clause q on t says 1 if 0;aim " + "1+".repeat(29) + n + ";");
+            DESK.due("orchard " + n, x.orchard(), 1);
+            DESK.due("its aim", x.aim(0), 29 + n);
+            DESK.due("its units", x.about(13), 61);
+            DESK.due("its clauses", x.wide(0) * 10 + x.wide(1), 10);
+        }
+    }
+
+    /** In the last of three one clause applies to no case, so that others are narrower than it is. */
+    private static void growGreat(GraftedLaws x, int many) {
+        for (int n = 0; n < many; n++) {
+            Desk.feed(x, n < 2 ? GREAT : GREAT.replace("bars cb if 1;", "bars cb if 0;"));
+            DESK.due("a great one", x.orchard(), 256);
+        }
+    }
+
+    /** What the searches answer, on an object that is new and on one that had great orchards. */
+    private static void answersAlike(String text, int great) {
+        GraftedLaws old = new GraftedLaws();
+        growGreat(old, great);
+        Desk.feed(old, text);
+        old.orchard();
+        GraftedLaws fresh = Desk.grown(text);
+        for (int i = 0; i < 4; i++) {
+            DESK.due("fruit(" + i + ") of " + text, old.fruit(i), fresh.fruit(i));
+            DESK.due("wide(" + i + ") of " + text, old.wide(i), fresh.wide(i));
+            DESK.due("aim(" + i + ") of " + text, old.aim(i), fresh.aim(i));
+            DESK.due("mend(" + i + ") of " + text, old.mend(i), fresh.mend(i));
+            DESK.due("graft(" + i + ") of " + text, old.graft(i), fresh.graft(i));
+            DESK.due("prune(" + i + ") of " + text, old.prune(i), fresh.prune(i));
+            DESK.due("clause(" + i + ", 5) of " + text, old.clause(i, 5), fresh.clause(i, 5));
+            for (int what = 0; what <= 2; what++) {
+                DESK.due("many(" + i + ", " + what + ") of " + text, old.many(i, what), fresh.many(i, what));
+                DESK.due("first(" + i + ", " + what + ") of " + text, old.first(i, what), fresh.first(i, what));
+                DESK.due("holes(" + i + ", " + what + ") of " + text, old.holes(i, what), fresh.holes(i, what));
+                DESK.due("unlike(" + i + ", " + what + ") of " + text, old.unlike(i, what), fresh.unlike(i, what));
+                DESK.due("parties(" + i + ", " + what + ") of " + text, old.parties(i, what, 0), fresh.parties(i, what, 0));
+                DESK.due("ask(" + i + ", " + what + ") of " + text, old.ask(i, what, 0), fresh.ask(i, what, 0));
+                DESK.due("evade(" + i + ", " + what + ") of " + text, old.evade(i, what), fresh.evade(i, what));
+                DESK.due("reach(" + i + ", " + what + ") of " + text, old.reach(i, what), fresh.reach(i, what));
+            }
+        }
     }
 }

@@ -417,6 +417,9 @@ public final class SearchBoundsTest {
         }
         x = Desk.grown("tree t;clause p on t says 9 set if 1;");
         due("one case alone", x.evade(0, 0), NONE);
+        x = Desk.grown("trait a 2;trait b 2;trait c 2;trait d 2;tree t;clause p on t says 1 set if a+b+c+d<4;");
+        due("all four traits changed", x.evade(0, 0), 15);
+        due("three of them", x.evade(0, 4), 15);
     }
 
     /** Promise 31: for how many CASES something else FOLLOWS; NONE if one can't be (behind NONE: nothing). */
@@ -548,6 +551,14 @@ public final class SearchBoundsTest {
         due("no other", x.lies(86), NONE);
         due("a short one behind it", x.reach(0, 4095), 0);
         due("nothing lies there", x.lies(0), NONE);
+        x.reach(0, 3665);
+        Desk.feed(x, cases(41));
+        x.orchard();
+        due("nothing lies there behind another orchard", x.lies(0), NONE);
+        due("41 cases behind a long way", x.fruit(0), 41);
+        due("forty of them", x.about(14), 40);
+        due("the last", x.lies(39), 62);
+        due("no other", x.lies(40), NONE);
     }
 
     /** 0 and 1 by turns let one more CLAUSE BEAR, or none, n times (1 .. 3) in all, 0 first: 0 wants most, 1 least. */

@@ -16,6 +16,7 @@ public final class TextBoundsTest {
 
     public static void main(String[] args) {
         longestText();
+        nothingBehindTheEnd();
         everyByteAlone();
         everyByteBehindANumber();
         everyByteBehindAWord();
@@ -97,6 +98,28 @@ public final class TextBoundsTest {
         due("1,600 bytes", x.about(12), 1600);
         due("no byte more", x.feed(0, 0, 0, 0, 0), -1);
         due("they are an orchard", x.orchard(), 1);
+    }
+
+    /** Promise 3: the TAPE has its first n bytes: what was behind them is part of no TOKEN. */
+    private static void nothingBehindTheEnd() {
+        cutOff("aim 1", "or 1;", CANT_STAND, 5);
+        cutOff("aim 1", "234567;", CANT_STAND, 5);
+        cutOff("tree abcdefgh", "ijk;", CANT_STAND, 13);
+        cutOff("tree t", ";", CANT_STAND, 6);
+        cutOff("aim ", "1;", CANT_STAND, 4);
+        cutOff("tre", "e t;", CANT_STAND, 0);
+        cutOff("tree t;", "$", 0, -1);
+        cutOff("", "$", 0, -1);
+        cutOff("tree t;" + blanks(1573), "tree u;", 0, -1);
+    }
+
+    private static void cutOff(String kept, String rest, int what, int place) {
+        GraftedLaws x = new GraftedLaws();
+        Desk.feed(x, kept + rest);
+        due("end", x.end(kept.length()), kept.length());
+        due("orchard of " + kept, x.orchard(), what == 0 ? 1 : -1);
+        due("its fault, without " + rest, x.fault(0), what);
+        due("its place", x.fault(1), place);
     }
 
     /** Signs ; ( ) < > = + - * / %; blanks (32, 10); what is none of these: no TOKEN. */

@@ -100,6 +100,14 @@ public final class TimesBoundsTest {
         x.orchard();
         due("none behind another orchard", x.untell(0), false);
         due("how many", x.about(10), 0);
+        x.judge(0, 0, 5);
+        x.judge(0, 0, 5);
+        Desk.feed(x, "tree t;");
+        x.orchard();
+        due("none, though those of another orchard were not untold", x.untell(0), false);
+        x.judge(0, 0, 5);
+        due("no second one", x.untell(1), false);
+        due("the first", x.untell(0), true);
     }
 
     /** Promise 37: so much later (0 .. 1000): the TIME; NONE, doing nothing, for another number. */
@@ -258,6 +266,18 @@ public final class TimesBoundsTest {
         due("sets", x.can(1, 0, 0), 2);
         due("in all", x.can(1, 1, 0), 0b0010);
         due("in some", x.can(1, 2, 0), 0b0110);
+        x.judge(1, 1, NONE);
+        due("no sets", x.can(1, 0, 0), 0);
+        x.untell(1);
+        x.untell(0);
+        x.judge(1, 0, SPLIT);
+        x.judge(1, 1, 1);
+        due("in all", x.can(1, 1, 0), 0b1010);
+        due("in some", x.can(1, 2, 0), 0b1110);
+        x.judge(0, 0, 1);
+        due("one set alone", x.can(0, 0, 0), 1);
+        due("in all", x.can(0, 1, 0), 0b0001);
+        due("in some", x.can(0, 2, 0), 0b0001);
         x.judge(1, 0, 2);
         due("no sets", x.can(1, 0, 0), 0);
         due("in all of none", x.can(1, 1, 0), 0);
@@ -331,6 +351,24 @@ public final class TimesBoundsTest {
         x = Desk.grown("trait a 4;tree t;");
         due("a bare tree: the first case", x.ask(0, 0, 0), 0);
         due("its one set", x.ask(0, 1, 0), 1);
+        StringBuilder twelve = new StringBuilder("trait a 2;tree t;");
+        for (char c = 'a'; c <= 'l'; c++) {
+            twelve.append("clause ").append(c).append(" on t says 99 if 0;");
+        }
+        x = Desk.grown(twelve.toString());
+        due("no case tells anything: the first", x.ask(0, 0, 0), 0);
+        due("all sets are left", x.ask(0, 1, 0), 4096);
+        x = Desk.grown("trait a 2;tree t;clause p on t says 99 if 1;clause q on t says 99 if a;");
+        due("case 0 leaves two and two, case 1 one and three by 99", x.ask(0, 0, 0), 0);
+        due("at the most", x.ask(0, 1, 0), 2);
+        for (int verdict : new int[] {0, 1, 98, 99}) {
+            x = Desk.grown("tree t;clause p on t says " + verdict + " if 1;clause q on t says " + verdict + " if 1;");
+            due("three of four by " + verdict, x.ask(0, 1, 0), 3);
+        }
+        x = Desk.grown("tree t later;clause p on t says 3 if 1;clause q on t says 4 if 1;clause r on t says 3 if 0;");
+        due("four of eight by 4", x.ask(0, 1, 0), 4);
+        x.judge(0, 0, NONE);
+        due("two by none", x.ask(0, 1, 0), 2);
     }
 
     /** Promise 39: NONE without sets. */
